@@ -111,6 +111,12 @@ public final class TogetherTest {
         KIT.due("1 2 ahead", x.three(0, 1, 2, 3, 0), 3);
         KIT.due("1 3 ahead", x.three(0, 1, 2, 3, 1), 3);
         KIT.due("2 3 ahead", x.three(0, 1, 2, 3, 2), 2);
+        CakePapers y = Kit.with(Kit.steps("a beat egg 1 1"), Kit.steps("a beat egg 2 1"), Kit.steps("a beat egg 3 1"));
+        int[][] asFirst = {{1, 1, 2}, {2, 2, 1}};
+        for (int way = 0; way < 3; way++) {
+            KIT.due("the two are settled as in the first of them, " + way, y.three(0, 1, 2, 1, way), asFirst[0][way]);
+            KIT.due("and so turned, " + way, y.three(0, 1, 2, 2, way), asFirst[1][way]);
+        }
         KIT.due("a breach ahead", x.three(0, 4, 5, 0, 0), CakePapers.GAP);
         KIT.due("a breach behind is none", x.three(0, 4, 5, 0, 1), 0);
         KIT.due("no way", x.three(0, 1, 2, 3, 3), -1);
