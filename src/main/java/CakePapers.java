@@ -640,6 +640,10 @@ public final class CakePapers {
         static final String WORDS = "call make by of much long want steps path ends has and or not";
         static final int WORD_COUNT = 14;
         static final String SIGNS = ";()<>=+-*";
+        static final int MOST_LETTERS = 8;
+        static final int MOST_DIGITS = 4;
+        /** Stands for all numbers of too many digits, those with 0 ahead too: beyond all that can be. */
+        static final int BEYOND = 10000;
 
         final long[] words;
         int[] bytes;
@@ -713,7 +717,7 @@ public final class CakePapers {
                     kind = WORD + i;
                 }
             }
-            if (at - place > 8) {
+            if (at - place > MOST_LETTERS) {
                 kind = BAD;
             }
         }
@@ -724,8 +728,10 @@ public final class CakePapers {
                 number = number * 10 + bytes[at] - '0';
                 at++;
             }
-            boolean runsOn = at < length && isLetter(bytes[at]);
-            kind = at - place > 4 || runsOn ? BAD : NUMBER;
+            if (at - place > MOST_DIGITS) {
+                number = BEYOND;
+            }
+            kind = at < length && isLetter(bytes[at]) ? BAD : NUMBER;
         }
 
         /** A FAULT at the TOKEN that is read now; always false, for the readers to hand on. */
@@ -972,6 +978,7 @@ public final class CakePapers {
     /** Reads a text as a WANT. The depth counts the brackets and nots that a place stands within. */
     private static final class WantReader {
         static final int MOST_DEPTH = 7;
+        static final int MOST_NUMBER = 9999;
 
         final Scanner scanner;
         Want into;
@@ -1083,6 +1090,9 @@ public final class CakePapers {
             int code = plainUnit(scanner.kind);
             if (code == NONE) {
                 return scanner.refuse();
+            }
+            if (code == Want.NUMBER && scanner.number > MOST_NUMBER) {
+                return scanner.blame(4);
             }
             into.add(code, scanner.number);
             scanner.next();

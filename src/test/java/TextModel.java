@@ -39,7 +39,7 @@ final class TextModel {
             }
             Matcher m = TOKEN.matcher(text).region(at, text.length());
             String found = m.lookingAt() ? m.group() : text.substring(at, at + 1);
-            boolean good = found.matches("[a-z]{1,8}|[0-9]{1,4}|[;()<>=+*-]");
+            boolean good = found.matches("[a-z]{1,8}|[0-9]+|[;()<>=+*-]");
             int end = at + found.length();
             if (found.matches("[0-9]+") && end < text.length() && Character.toString(text.charAt(end)).matches("[a-z]")) {
                 good = false;
@@ -141,23 +141,23 @@ final class TextModel {
             needs.add(need);
         } while (isName());
         pass("much");
-        int much = number();
+        int much = number(999);
         pass("long");
-        int lng = number();
+        int lng = number(999);
         pass(";");
         return new Model.Step(makes, verb, much, lng, needs);
     }
 
-    private int number() {
+    private int number(int most) {
         if (!isNumber()) {
             throw stray();
         }
-        int n = Integer.parseInt(now().text);
-        if (n > 999) {
-            throw new Fault(4, now().place);
+        Token t = now();
+        if (t.text.length() > 4 || Integer.parseInt(t.text) > most) {
+            throw new Fault(4, t.place);
         }
         next++;
-        return n;
+        return Integer.parseInt(t.text);
     }
 
     /** The value of the text as a WANT, of a PAPER. */
@@ -247,7 +247,7 @@ final class TextModel {
         }
         units++;
         if (isNumber()) {
-            return Integer.parseInt(tokens.get(next++).text);
+            return number(9999);
         }
         if (is("(")) {
             if (within > 6) {

@@ -15,20 +15,8 @@ public final class WantTest {
     private static void comesTo(String text, int units, int value) {
         CakePapers x = Kit.with(PAPER);
         KIT.due("none at first", x.makes(0, 5), 0);
-        KIT.due(text, Kit.want(x, "want " + text + ";"), units);
-        KIT.due(text + " units", x.about(1), units);
-        KIT.due(text + " value", x.makes(0, 5), value);
+        KIT.isWant(x, "want " + text + ";", units, value);
         KIT.due(text + " of none", x.makes(1, 5), -1);
-    }
-
-    private static void isFault(String marked, int code) {
-        CakePapers x = Kit.with(PAPER);
-        KIT.due("a WANT ahead", Kit.want(x, "want 41 + 1;"), 2);
-        KIT.due(marked, Kit.want(x, marked.replace("^", "")), -1);
-        KIT.due(marked + " fault", x.fault(0), code);
-        KIT.due(marked + " place", x.fault(1), marked.indexOf('^'));
-        KIT.due(marked + " stays", x.makes(0, 5), 42);
-        KIT.due(marked + " units", x.about(1), 2);
     }
 
     private static void values() {
@@ -72,56 +60,56 @@ public final class WantTest {
 
     private static void units() {
         comesTo("1" + "+1".repeat(39), 40, 40);
-        isFault("want 1" + "+1".repeat(39) + "+^1;", 2);
-        isFault("want 1" + "+1".repeat(39) + "+^has a;", 2);
-        isFault("want 1" + "+1".repeat(39) + "+^(1);", 2);
+        KIT.isNoWant("want 1" + "+1".repeat(39) + "+^1;", 2);
+        KIT.isNoWant("want 1" + "+1".repeat(39) + "+^has a;", 2);
+        KIT.isNoWant("want 1" + "+1".repeat(39) + "+^(1);", 2);
         comesTo("1" + "+1".repeat(37) + "+(1)", 40, 39);
-        isFault("want 1" + "+1".repeat(38) + "+(^1);", 2);
+        KIT.isNoWant("want 1" + "+1".repeat(38) + "+(^1);", 2);
     }
 
     private static void depth() {
         comesTo("(".repeat(7) + "3" + ")".repeat(7), 8, 3);
-        isFault("want " + "(".repeat(7) + "^(3" + ")".repeat(8) + ";", 2);
+        KIT.isNoWant("want " + "(".repeat(7) + "^(3" + ")".repeat(8) + ";", 2);
         comesTo("not ".repeat(7) + "3", 1, 0);
-        isFault("want " + "not ".repeat(7) + "^not 3;", 2);
+        KIT.isNoWant("want " + "not ".repeat(7) + "^not 3;", 2);
         comesTo("not (not (not (not 3 or 1)))", 5, 0);
-        isFault("want not (not (not (not ^not 3)));", 2);
-        isFault("want not (not (not (not ^(3))));", 2);
+        KIT.isNoWant("want not (not (not (not ^not 3)));", 2);
+        KIT.isNoWant("want not (not (not (not ^(3))));", 2);
         comesTo("((((((1))))))+((((((1))))))", 14, 2);
         comesTo("not 0 and not 0 and not 0 and not 0 and not 0 and not 0 and not 0 and not 0", 8, 1);
     }
 
     private static void faults() {
-        isFault("^", 2);
-        isFault("   ^", 2);
-        isFault("^steps;", 2);
-        isFault("^make", 2);
-        isFault("want ^;", 2);
-        isFault("want^", 2);
-        isFault("want 1^", 2);
-        isFault("want 1 ^2;", 2);
-        isFault("want 1;^;", 2);
-        isFault("want 1; ^want 1;", 2);
-        isFault("want 1;^!", 1);
-        isFault("want ^a;", 2);
-        isFault("want has ^steps;", 2);
-        isFault("want has ^7;", 2);
-        isFault("want has a ^b;", 2);
-        isFault("want 1 + ^;", 2);
-        isFault("want ^- 1;", 2);
-        isFault("want 1 < 2 ^< 3;", 2);
-        isFault("want 1 + ^not 2;", 2);
-        isFault("want 1 < ^not 2;", 2);
-        isFault("want 1 ^not 2;", 2);
-        isFault("want (1^;", 2);
-        isFault("want 1^);", 2);
-        isFault("want (^);", 2);
-        isFault("want ^call;", 2);
-        isFault("want ^12345;", 1);
-        isFault("want ^1a;", 1);
-        isFault("want 1 ^& 2;", 1);
-        isFault("want has ^abcdefghi;", 1);
-        isFault("want 1 ^or;".replace("^or", "or ^"), 2);
+        KIT.isNoWant("^", 2);
+        KIT.isNoWant("   ^", 2);
+        KIT.isNoWant("^steps;", 2);
+        KIT.isNoWant("^make", 2);
+        KIT.isNoWant("want ^;", 2);
+        KIT.isNoWant("want^", 2);
+        KIT.isNoWant("want 1^", 2);
+        KIT.isNoWant("want 1 ^2;", 2);
+        KIT.isNoWant("want 1;^;", 2);
+        KIT.isNoWant("want 1; ^want 1;", 2);
+        KIT.isNoWant("want 1;^!", 1);
+        KIT.isNoWant("want ^a;", 2);
+        KIT.isNoWant("want has ^steps;", 2);
+        KIT.isNoWant("want has ^7;", 2);
+        KIT.isNoWant("want has a ^b;", 2);
+        KIT.isNoWant("want 1 + ^;", 2);
+        KIT.isNoWant("want ^- 1;", 2);
+        KIT.isNoWant("want 1 < 2 ^< 3;", 2);
+        KIT.isNoWant("want 1 + ^not 2;", 2);
+        KIT.isNoWant("want 1 < ^not 2;", 2);
+        KIT.isNoWant("want 1 ^not 2;", 2);
+        KIT.isNoWant("want (1^;", 2);
+        KIT.isNoWant("want 1^);", 2);
+        KIT.isNoWant("want (^);", 2);
+        KIT.isNoWant("want ^call;", 2);
+        KIT.isNoWant("want ^12345;", 4);
+        KIT.isNoWant("want ^1a;", 1);
+        KIT.isNoWant("want 1 ^& 2;", 1);
+        KIT.isNoWant("want has ^abcdefghi;", 1);
+        KIT.isNoWant("want 1 ^or;".replace("^or", "or ^"), 2);
     }
 
     private static void stays() {
