@@ -236,6 +236,12 @@ public final class ChangeEdgesTest {
         KIT.due("a ring of three", x.does(1, 1, 0), -1);
         KIT.due("a ring behind one that can come", x.does(2, 2, 0), -1);
         KIT.due("turned, no ring", x.does(3, 3, 0), 3);
+        String[] lines = new String[12];
+        for (int i = 0; i < 12; i++) {
+            lines[i] = (char) ('a' + i) + " v " + (char) ('a' + (i + 1) % 12) + " 1 1";
+        }
+        CakePapers ring = Kit.with(Kit.steps(lines));
+        KIT.due("a ring of twelve", ring.does(0, 0, 0), -1);
         KIT.due("nothing", x.does(4, 4, 0), 0);
         KIT.due("b of a, which was MADE and is OUT", x.does(0, 4, 1), -1);
         KIT.due("a ring gone", x.does(0, 4, 3), 0);
@@ -304,6 +310,25 @@ public final class ChangeEdgesTest {
         KIT.due("NEEDS with c, a OUT, which these had RAW", x.does(0, 1, 21), 3);
         // from 0 to 2: NEEDS of b, OUT d
         KIT.due("d is RAW in the second", x.does(0, 2, 3), 2);
+        // ALTERED as in the first STEP of the second; from 0 to 1: OUT a, NEEDS of b
+        CakePapers y = Kit.with(Kit.steps("a v p 1 1", "b v a 1 1"), Kit.steps("b v q 1 1"));
+        KIT.due("OUT a alone", y.does(0, 1, 1), -1);
+        KIT.due("NEEDS of b, too", y.does(0, 1, 3), 1);
+        lostBehindWhatGoes();
+    }
+
+    /** Each place among the NEEDS, of a STEP that comes nearer as one ahead is OUT. */
+    private static void lostBehindWhatGoes() {
+        String[] needs = {"a p q r", "p a q r", "p q a r", "p q r a"};
+        for (String four : needs) {
+            CakePapers x = Kit.with(Kit.steps("z v p 1 1", "a v p 1 1", "b v " + four + " 1 1", "c v s t u w 1 1"),
+                    Kit.steps("b v " + four + " 1 1", "c v s t u w 1 1"), Kit.steps("a v p 1 1", "c v s t u w 1 1"));
+            // from 0 to 1: OUT z, OUT a
+            KIT.due("OUT z", x.does(0, 1, 1), 3);
+            KIT.due("OUT z, and a that b NEEDS", x.does(0, 1, 3), -1);
+            // from 0 to 2: OUT z, OUT b
+            KIT.due("OUT z and b", x.does(0, 2, 3), 2);
+        }
     }
 
     private static void doesCall() {

@@ -193,6 +193,16 @@ public final class JoinEdgesTest {
         CakePapers all = Kit.with(Kit.many('a', 8, "v egg 1 1"), Kit.many('i', 8, "w egg 2 2"), Kit.many('q', 8, "x egg 3 3"));
         KIT.due("24 STEPS, no QUARREL", all.join(0, 1, 2), 0);
         KIT.due("16 are there", all.joined(), -3);
+        // more STEPS than two PAPERS have: none may be forgotten
+        CakePapers three = Kit.with(Kit.many('a', 12, "v egg 1 1"), Kit.many('m', 12, "w egg 2 2"), Kit.steps("y v egg 1 1"));
+        KIT.due("25 STEPS, no QUARREL", three.join(0, 1, 2), 0);
+        KIT.due("13 are there", three.joined(), -3);
+        CakePapers most = Kit.with(Kit.many('a', 12, "v egg 1 1"), Kit.many('m', 12, "w egg 2 2"),
+                Kit.many('a', 12, "v oil 3 3").replace("make ", "make x"));
+        KIT.due("36 STEPS, no QUARREL", most.join(0, 1, 2), 0);
+        KIT.due("LEFT by both", most.left(0), 12);
+        KIT.due("PUT by both", most.left(2), 0);
+        KIT.due("24 are there", most.joined(), -3);
     }
 
     private static void sides() {
@@ -320,6 +330,24 @@ public final class JoinEdgesTest {
                 Kit.steps("c v r 1 1"));
         quarrels(w, 1, 4);
         KIT.due("by 0 a BREACH", w.quarrel(0, 3), 0);
+        othersByZero();
+    }
+
+    /** d of a or of b is of WORDS while a and b are ALIKE, as they are with the QUARREL of a's much by 0. */
+    private static void othersByZero() {
+        CakePapers x = Kit.with(
+                Kit.steps("a v p 1 1", "b v p 2 1", "d v q 1 1", "e v a b 1 1"),
+                Kit.steps("a v p 2 1", "b v p 2 1", "d v a 1 1", "e v a b 1 1"),
+                Kit.steps("a v p 3 1", "b v p 2 1", "d v b 1 1", "e v a b 1 1"));
+        quarrels(x, 0, 2, 2, 4);
+        KIT.due("a is another thing", x.quarrel(0, 3), 0);
+        KIT.due("d is of WORDS, however the one ahead was looked at", x.quarrel(1, 3), 1);
+        KIT.due("again", x.quarrel(0, 3), 0);
+        x.settle(0, 1);
+        KIT.due("however that is SETTLED", x.quarrel(1, 3), 1);
+        Kit.want(x, "want much;");
+        KIT.due("BEST by 1", x.best(0), 1);
+        KIT.due("however BEST was looked for", x.quarrel(1, 3), 1);
     }
 
     private static void joinCall() {
@@ -449,6 +477,17 @@ public final class JoinEdgesTest {
         best(x, "8192*8192*32 + much", Kit.LEAST_INT + 6, 1, 1);
         // the most wraps: with much 6 it is the least of all
         best(x, "8192*8192*32 - 6 + much", Kit.MOST_INT, 0, 1);
+        // each row by itself: what a row ahead came to is no part of it
+        CakePapers w = Kit.with(Kit.steps("a v p 1 1", "b v p 1 5"), Kit.steps("a v p 2 9", "b v a 1 5"),
+                Kit.steps("a v p 3 7", "b v q 1 5"));
+        w.join(0, 1, 2);
+        String[] units = {"steps", "much", "long", "path", "ends"};
+        int[][] most = {{2, 0, 0, 0}, {4, 1, 0, 0}, {14, 0, 0, 0}, {14, 0, 0, 0}, {2, 0, 0, 1}};
+        int[][] fewest = {{2, 0, 0, 0}, {2, 2, 0, 0}, {6, 0, 2, 0}, {5, 0, 2, 1}, {1, 0, 0, 0}};
+        for (int u = 0; u < units.length; u++) {
+            best(w, units[u], most[u][0], most[u][1], most[u][2], most[u][3]);
+            best(w, "0 - " + units[u], -fewest[u][0], fewest[u][1], fewest[u][2], fewest[u][3]);
+        }
         // 2 is as 0 where BASE has no such STEP: the first of both
         CakePapers y = Kit.with("", Kit.steps("a v p 2 1"), Kit.steps("a v p 1 1"));
         y.join(0, 1, 2);
@@ -543,6 +582,13 @@ public final class JoinEdgesTest {
             x.join(0, 0, none);
             KIT.due("the one before", x.left(1), 6);
         }
+        // a larger JOINING ahead leaves nothing behind
+        CakePapers y = Kit.with(Kit.many('a', 6, "v p 1 1"), Kit.many('a', 3, "v p 1 1"));
+        y.join(0, 1, 1);
+        KIT.due("three LEFT", y.left(0), 3);
+        y.join(1, 1, 1);
+        KIT.due("none LEFT", y.left(0), 0);
+        KIT.due("three neither changed", y.left(1), 3);
         x.tear(5);
         KIT.due("none torn", x.left(1), 6);
         x.tear(2);

@@ -226,6 +226,16 @@ public final class KeepEdgesTest {
         y.back(0);
         KIT.due("JOINED of what was torn", y.joined(), 3);
         muches(y, 0, 1, 2, 2);
+        // all eight of them, the first and the last, too
+        CakePapers eight = papers(8);
+        eight.image(2);
+        for (int i = 0; i < 8; i++) {
+            eight.tear(0);
+            Kit.paper(eight, much(90 + i));
+        }
+        muches(eight, 90, 91, 92, 93, 94, 95, 96, 97);
+        KIT.due("back", eight.back(2), 8);
+        muches(eight, 0, 1, 2, 3, 4, 5, 6, 7);
     }
 
     private static void backCall() {

@@ -127,6 +127,12 @@ public final class StepEdgesTest {
                 KIT.due("same(" + i + ", " + j + ")", x.same(i, j), due[i][j] ? 1 : 0);
             }
         }
+        CakePapers y = Kit.with(Kit.many('a', 12, "v egg 1 1"), Kit.many('m', 12, "v egg 1 1"),
+                Kit.many('a', 11, "v egg 1 1") + Kit.steps("l v egg 1 2"), Kit.steps("l v egg 1 2") + Kit.many('a', 11, "v egg 1 1"));
+        KIT.due("twelve ENDS", y.same(0, 1), 1);
+        KIT.due("twelve ENDS, the last another", y.same(0, 2), 0);
+        KIT.due("turned", y.same(2, 0), 0);
+        KIT.due("the last is the first", y.same(2, 3), 1);
     }
 
     private static void makesCall() {

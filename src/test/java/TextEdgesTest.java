@@ -72,12 +72,30 @@ public final class TextEdgesTest {
         x.end(0);
         Kit.tell(x, LINE);
         KIT.due("what is cut is gone", x.paper(), 1);
+        cut("make a by b of c much 1", "2 long 1;");
+        cut("make a by b of c much 12", "a long 1;");
+        cut("make a by b of c much 1 long 99", "99;");
+        cut("make a by flour", "of c much 1 long 1;");
+        cut("make", "a");
+        Kit.tell(x, LINE + "make b");
+        x.end(LINE.length());
+        KIT.due("a line ahead of what is cut", x.paper(), 2);
         KIT.sentence("NONE, doing nothing, if it has not so many, or n is below 0.");
         Kit.tell(x, "call");
         for (int n : new int[] {5, 20, 1200, 1201, -1, Kit.LEAST_INT, Kit.MOST_INT}) {
             KIT.due("end " + n, x.end(n), -1);
             KIT.due("nothing done", x.about(4), 4);
         }
+    }
+
+    /** Fed as one and cut: what was behind is no part of the last TOKEN, and the FAULT is at the end. */
+    private static void cut(String kept, String gone) {
+        CakePapers x = new CakePapers();
+        Kit.tell(x, kept + gone);
+        x.end(kept.length());
+        KIT.due("<" + kept + "> cut", x.paper(), -1);
+        KIT.due("<" + kept + "> cut: its FAULT", x.fault(0), 2);
+        KIT.due("<" + kept + "> cut: its place", x.fault(1), kept.length());
     }
 
     private static void paperAndTape() {
@@ -101,6 +119,20 @@ public final class TextEdgesTest {
         Kit.tell(x, " b" + TAIL);
         KIT.due("gone on from", x.paper(), 3);
         KIT.due("its STEPS", x.makes(3, 0), 2);
+        refusedIsGone();
+    }
+
+    /** Nothing of a refused text is in the next PAPER: neither NEEDS, nor calls, nor STEPS. */
+    private static void refusedIsGone() {
+        CakePapers x = Kit.with(Kit.steps("a v p 1 1"), Kit.steps("a v q r 1 1"));
+        KIT.due("refused", Kit.paper(x, "call v w;" + Kit.steps("a v p q r s 9 9", "b v a 9 9") + "?"), -1);
+        KIT.due("the next", Kit.paper(x, Kit.steps("a v p 1 1")), 2);
+        KIT.due("as if there were no other", x.changes(2, 0), 0);
+        KIT.due("turned", x.changes(0, 2), 0);
+        KIT.due("NEEDS of another", x.changes(2, 1), 1);
+        KIT.due("weighed", x.least(2, 1), 3);
+        KIT.due("its STEPS", x.makes(2, 0), 1);
+        KIT.due("its ENDS", x.makes(2, 1), 1);
     }
 
     private static void paperWhenFull() {
@@ -306,6 +338,10 @@ public final class TextEdgesTest {
         KIT.isNoPaper("make a by b of c much 1 long ^1000;", 4);
         KIT.isNoPaper("make a by b of c much ^9999 long 9999;", 4);
         KIT.isNoPaper("make a by b of c much ^-1 long 1;", 2);
+        KIT.isNoPaper("make a by b of c much ^long 1;", 2);
+        KIT.isNoPaper("make a by b of c much 1 long ^;", 2);
+        KIT.isNoPaper("make a by b of c ^long 1;", 2);
+        KIT.isNoPaper("make a by b of c much 1^;", 2);
     }
 
     private static void firstByPlace() {

@@ -242,6 +242,15 @@ public final class TogetherEdgesTest {
         three(x, 4, 0, 3, 0, CakePapers.GAP, 0);
         // a ALTERED against a OUT: settled by 0 it is as in the first of the two
         three(x, 1, 3, 1, 1, 1, 2);
+        // by 0, whatever was looked at before: by 1 there would be no second QUARREL with the third
+        x.join(0, 1, 2);
+        x.quarrel(0, 3);
+        KIT.due("behind quarrel", x.three(0, 1, 2, 2, 0), 2);
+        Kit.want(x, "want much;");
+        KIT.due("BEST by 1", x.best(0), 1);
+        KIT.due("behind best", x.three(0, 1, 2, 2, 0), 2);
+        x.settle(0, 1);
+        KIT.due("behind settle", x.three(0, 1, 2, 2, 0), 2);
         CakePapers y = Kit.with(Kit.many('a', 12, "v egg 1 1"), Kit.many('a', 12, "w oil 2 2"), Kit.many('a', 12, "x fat 3 3"),
                 Kit.many('a', 12, "y rum 4 4"));
         three(y, 1, 2, 3, 96, 96, 96);
