@@ -315,6 +315,21 @@ public final class ChangeEdgesTest {
         KIT.due("OUT a alone", y.does(0, 1, 1), -1);
         KIT.due("NEEDS of b, too", y.does(0, 1, 3), 1);
         lostBehindWhatGoes();
+        fourNeeds();
+    }
+
+    /** Four NEEDS put in are of one STEP alone: b behind it still NEEDS z; and the last STEP may have four, too. */
+    private static void fourNeeds() {
+        CakePapers x = Kit.with(Kit.steps("z v p 1 1", "a v p 1 1", "b v z 1 1"),
+                Kit.steps("a v p r s t 1 1", "c v y 1 1", "b v z 1 1"));
+        // from 0 to 1: OUT z, NEEDS of a, PUT c
+        KIT.due("NEEDS of a", x.does(0, 1, 2), 3);
+        KIT.due("NEEDS of a, OUT z that b NEEDS", x.does(0, 1, 3), -1);
+        String eleven = Kit.many('a', 11, "v egg 1 1");
+        CakePapers y = Kit.with(eleven + Kit.steps("l v a b c d 1 1"), eleven + Kit.steps("l v e f g h 1 1"), eleven);
+        KIT.due("the last STEP", y.does(0, 0, 0), 12);
+        KIT.due("the last STEP ALTERED", y.does(0, 1, 1), 12);
+        KIT.due("the last STEP PUT", y.does(2, 1, 1), 12);
     }
 
     /** Each place among the NEEDS, of a STEP that comes nearer as one ahead is OUT. */

@@ -18,6 +18,7 @@ public final class TogetherEdgesTest {
         leansInARow();
         leansFirst();
         leansStays();
+        leansBehindOthers();
         leansCall();
         KIT.finish("TogetherEdgesTest");
     }
@@ -96,6 +97,21 @@ public final class TogetherEdgesTest {
         ruin(y, 4, 3500);
         KIT.due("turned pairs", y.ruin(0, 2, 1, 0), 4);
         KIT.due("turned first", y.ruin(0, 2, 1, 1), 35);
+        ruinBehindOthers();
+    }
+
+    /** What a call before looked at is no CHANGE of this one: OUT a would ruin what PUT c NEEDS. */
+    private static void ruinBehindOthers() {
+        CakePapers x = Kit.with(Kit.steps("a v p 1 1", "b v p 1 1"), Kit.steps("a v p 1 1", "b v p 1 1", "c v a 1 1"),
+                Kit.steps("a v p 1 1", "b v p 2 1"), "", Kit.steps("a w q 3 3", "b w q 3 3"));
+        KIT.due("many CHANGES", x.changes(0, 4), 8);
+        KIT.due("nothing leans", x.leans(0, 4, 7), 0);
+        ruin(x, 0, -1);
+        KIT.due("a pair", x.ruin(0, 1, 3, 0), 1);
+        x.leans(0, 4, 7);
+        ruin(x, 0, -1);
+        x.does(0, 4, 255);
+        KIT.due("one without CHANGES", x.ruin(0, 1, 0, 0), 0);
     }
 
     private static void ruinCall() {
@@ -342,6 +358,17 @@ public final class TogetherEdgesTest {
         // a BASE that is no good by itself, and nothing else done
         CakePapers bad = Kit.with(Kit.steps("a v b 1 1", "b v a 1 1"), Kit.steps("a v b 2 1", "b v a 1 1"));
         KIT.due("a ring of BASE", bad.leans(0, 1, 0), 0);
+    }
+
+    /** b lost a, and none of its CHANGES gave it NEEDS, though one of the call before did. */
+    private static void leansBehindOthers() {
+        CakePapers x = Kit.with(Kit.steps("a v p 1 1", "b v a 1 1"), Kit.steps("b v a 2 1"), Kit.steps("b v q 2 1"));
+        KIT.due("OUT a, much of b, NEEDS of b", x.changes(0, 2), 3);
+        KIT.due("OUT a, much of b", x.changes(0, 1), 2);
+        KIT.due("none leans on OUT", x.leans(0, 2, 0), 0);
+        KIT.due("none such, it stays so", x.leans(0, 1, 1), 0);
+        KIT.due("all of them done", x.does(0, 2, 7), 1);
+        KIT.due("none such still", x.leans(0, 1, 1), 0);
     }
 
     private static void leansCall() {

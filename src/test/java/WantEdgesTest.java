@@ -68,6 +68,21 @@ public final class WantEdgesTest {
         KIT.due("in place of that before", x.about(1), 3);
         KIT.due("fewer", Kit.want(x, "want 6;"), 1);
         KIT.due("nothing of that before is left", x.makes(0, 5), 6);
+        // a not, a sign or a unit where the shorter one ends, in either of two WANTS before
+        for (String longer : new String[] {"want not 5;", "want 5 + 5;", "want 5 < (6);", "want not not 5;"}) {
+            for (int before = 1; before <= 3; before++) {
+                for (int i = 0; i < before; i++) {
+                    Kit.want(x, longer);
+                }
+                Kit.want(x, "want 7;");
+                KIT.due("nothing of " + longer, x.makes(0, 5), 7);
+            }
+            Kit.want(x, longer);
+            Kit.want(x, "want 9;");
+            Kit.want(x, "want 7;");
+            KIT.due("nothing of the last but one: " + longer, x.makes(0, 5), 7);
+        }
+        Kit.want(x, "want 6;");
         KIT.sentence("NONE: a FAULT (it stays as it was)");
         for (String wrong : new String[] {"", "want", "want 1+2+3", "want 9 9;", "want 12345;"}) {
             KIT.due("a FAULT: " + wrong, Kit.want(x, wrong), -1);
