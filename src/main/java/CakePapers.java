@@ -579,7 +579,9 @@ public final class CakePapers {
             much[step] = from.much[fromStep];
             lasts[step] = from.lasts[fromStep];
             needCount[step] = from.needCount[fromStep];
-            System.arraycopy(from.needs, fromStep * MOST_NEEDS, needs, step * MOST_NEEDS, MOST_NEEDS);
+            for (int k = 0; k < MOST_NEEDS; k++) {
+                needs[step * MOST_NEEDS + k] = from.needs[fromStep * MOST_NEEDS + k];
+            }
         }
 
         /** All that follows from the STEPS, once they stand in their order. */

@@ -15,6 +15,8 @@ public final class ChangeEdgesTest {
         leastWeights();
         leastMatched();
         leastCall();
+        oneDone();
+        someDone();
         order();
         tooMany();
         lostOfFirst();
@@ -220,6 +222,42 @@ public final class ChangeEdgesTest {
             KIT.due("second " + none, x.least(2, none), -1);
         }
         KIT.due("one beyond", x.least(2, 5), -1);
+    }
+
+    private static void oneDone() {
+        KIT.sentence("A CHANGE done on a PAPER: OUT: its STEP goes; ALTERED: so becomes that of the STEP;");
+        CakePapers x = Kit.with(
+                Kit.steps("a v p 1 1", "b v p 1 1", "c v p 1 1"),
+                Kit.steps("c v p 1 1", "b w c 2 3"),
+                Kit.steps("b v a 1 1", "a v b 1 1", "c v a 1 1"));
+        // from 0 to 1: OUT a; of b VERB, much, long, NEEDS
+        int[] steps = {2, 3, 3, 3, 3};
+        for (int i = 0; i < steps.length; i++) {
+            KIT.due("the CHANGE " + i + " alone", x.does(0, 1, 1 << i), steps[i]);
+        }
+        // from 0 to 2: NEEDS of a are b, those of b are a, those of c are a
+        KIT.due("a of b", x.does(0, 2, 1), 3);
+        KIT.due("b of a", x.does(0, 2, 2), 3);
+        KIT.due("a of b, b of a: a ring", x.does(0, 2, 3), -1);
+        KIT.due("a of b, c of a", x.does(0, 2, 5), 3);
+    }
+
+    private static void someDone() {
+        KIT.sentence("Some CHANGES done: first all ALTERED, then OUT, then PUT, in order.");
+        // OUT a is numbered ahead of NEEDS of b, which would else lose a
+        CakePapers x = Kit.with(Kit.steps("a v p 1 1", "b v a 1 1"), Kit.steps("b v p 1 1", "c v b 1 1"));
+        int[] steps = {2, -1, 2, 1, 3, -1, 3, 2};
+        for (int set = 0; set < steps.length; set++) {
+            KIT.due("set " + set, x.does(0, 1, set), steps[set]);
+        }
+        // what is PUT is told in the other order than what NEEDS it is done
+        CakePapers y = Kit.with(Kit.steps("a v p 1 1", "b v p 1 1"), Kit.steps("d v p 1 1", "e v d 1 1", "a v e 1 1"));
+        // 0 NEEDS of a, 1 OUT b, 2 PUT d, 3 PUT e
+        int[] due = {2, -1, 1, -1, 3, -1, 2, -1, -1, -1, -1, -1, 4, 4, 3, 3};
+        for (int set = 0; set < due.length; set++) {
+            KIT.due("set " + set, y.does(0, 1, set), due[set]);
+        }
+        KIT.due("one beyond", y.does(0, 1, 16), CakePapers.GAP);
     }
 
     private static void order() {
